@@ -234,15 +234,14 @@ public final class HungFloors {
         if (!isDrawing(drawing) || !isFloor(floor)) {
             return NONE;
         }
-        first.draw(plan, drawing);
-        first.loadPeople(people, moving);
-        if (first.isBeyondWith(floor, 0, moving)) {
+        Frame frame = reckoned(first, drawing);
+        if (frame.isBeyondWith(floor, 0, moving)) {
             return NONE;
         }
         int most = 0;
         for (int step = 512; step > 0; step >>= 1) {
             int more = most + step;
-            if (more <= MOST_PEOPLE && !first.isBeyondWith(floor, more, moving)) {
+            if (more <= MOST_PEOPLE && !frame.isBeyondWith(floor, more, moving)) {
                 most = more;
             }
         }
@@ -584,9 +583,9 @@ public final class HungFloors {
             start = at;
             if (at >= length) {
                 kind = Kind.END;
-            } else if (isLetterAt(at)) {
+            } else if (text[at] >= 'a' && text[at] <= 'z') {
                 takeLetters(letterForbiddenAt);
-            } else if (isDigitAt(at)) {
+            } else if (text[at] >= '0' && text[at] <= '9') {
                 takeDigits();
             } else if (text[at] == ';') {
                 kind = Kind.SIGN;
@@ -603,7 +602,8 @@ public final class HungFloors {
             }
             kind = Kind.WORD;
             word = 0;
-            while (at < start + MOST_LETTERS && isLetterAt(at)) {
+            int end = Math.min(length, start + MOST_LETTERS);
+            while (at < end && text[at] >= 'a' && text[at] <= 'z') {
                 word = word << 8 | text[at];
                 at++;
             }
@@ -612,18 +612,11 @@ public final class HungFloors {
         private void takeDigits() {
             kind = Kind.NUMBER;
             number = 0;
-            while (at < start + MOST_DIGITS && isDigitAt(at)) {
+            int end = Math.min(length, start + MOST_DIGITS);
+            while (at < end && text[at] >= '0' && text[at] <= '9') {
                 number = number * 10 + text[at] - '0';
                 at++;
             }
-        }
-
-        private boolean isLetterAt(int place) {
-            return place < length && text[place] >= 'a' && text[place] <= 'z';
-        }
-
-        private boolean isDigitAt(int place) {
-            return place < length && text[place] >= '0' && text[place] <= '9';
         }
 
         boolean isWord(long wanted) {
@@ -786,10 +779,11 @@ public final class HungFloors {
         }
 
         private int numberBehind(long word, int least, int greatest) {
-            if (!takeWord(word)) {
-                return REFUSED;
+            boolean behindWord = tokens.isWord(word);
+            if (behindWord) {
+                tokens.advance();
             }
-            if (tokens.kind != Kind.NUMBER) {
+            if (!behindWord || tokens.kind != Kind.NUMBER) {
                 refuse(MISPLACED);
                 return REFUSED;
             }
@@ -915,15 +909,20 @@ public final class HungFloors {
             }
         }
 
+        /** The drawing must have been reckoned, with whomever else on its floors. */
         boolean isBeyondWith(int floor, int people, int move) {
             own[floor] = (long) TENTHS * plan.weighs[floor] + (long) people * (TENTHS + move);
-            reckon();
+            passUp();
             return isAnyBeyond();
         }
 
-        /** From below up: a rod holds only floors farther down than where it hangs. */
         void reckon() {
             countHolders();
+            passUp();
+        }
+
+        /** From below up: a rod holds only floors farther down than where it hangs. */
+        private void passUp() {
             for (int r = 0; r < rodCount; r++) {
                 bornByRod[r] = 0;
             }
@@ -1045,29 +1044,36 @@ public final class HungFloors {
             return hungFrom & ~openFloors();
         }
 
-        /** Of the rods, as bits, the fewest that hung from the roof leave nothing beyond; NONE if none do. */
+        /**
+         * Of the rods, as bits, the fewest that hung from the roof leave nothing beyond; NONE if none do.
+         * The drawing must have been reckoned: which rods hold a floor stays as it is.
+         */
         int fewestToRoof() {
+            int roofed = rodsFromRoof();
             int best = NONE;
             for (int rods = 0; rods < 1 << rodCount; rods++) {
                 boolean better = best < 0 || Integer.bitCount(rods) < Integer.bitCount(best);
-                if (better && hangFromRoof(rods)) {
-                    reckon();
+                if (better && (rods & roofed) == 0) {
+                    hangFromRoof(rods);
+                    passUp();
                     best = isAnyBeyond() ? best : rods;
                 }
             }
             return best;
         }
 
-        /** False if one of them hangs from the roof as told. */
-        private boolean hangFromRoof(int rods) {
-            boolean all = true;
+        private int rodsFromRoof() {
+            int rods = 0;
             for (int r = 0; r < rodCount; r++) {
-                int told = plan.rodFrom[firstRod + r];
-                boolean chosen = (rods >> r & 1) != 0;
-                all = all && !(chosen && told < 0);
-                from[r] = chosen ? ROOF : told;
+                rods |= from[r] < 0 ? 1 << r : 0;
             }
-            return all;
+            return rods;
+        }
+
+        private void hangFromRoof(int rods) {
+            for (int r = 0; r < rodCount; r++) {
+                from[r] = (rods >> r & 1) != 0 ? ROOF : plan.rodFrom[firstRod + r];
+            }
         }
 
         /** How many joints, by what they bear, are looked at until one beyond is met; 0 if none is. */

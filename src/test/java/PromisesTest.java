@@ -187,6 +187,12 @@ public final class PromisesTest {
         faulty(h + "rod a from by", 2, n + 11);
         faulty(h + "rod a from 1", 2, n + 11);
         faulty(h + "rod a by a", 2, n + 6);
+        faulty(h + "rod a;", 2, n + 5);
+        faulty(h + "rod a from;", 2, n + 10);
+        faulty(h + "rod a from a;", 2, n + 12);
+        faulty(h + "rod a from a by;", 2, n + 15);
+        faulty(h + "rod a from a by b;", 2, n + 17);
+        faulty(h + "rod a from a by b can;", 2, n + 21);
         faulty(h + "rod a from roof can", 2, n + 16);
         faulty(h + "rod a from roof by can 1", 2, n + 19);
         faulty(h + "rod a from roof by roof", 2, n + 19);
@@ -418,6 +424,22 @@ public final class PromisesTest {
         HungFloors y = Check.of("floor a weighs 0 can 1 stands 0;drawing a;rod a from roof by a can 1;"
                 + "drawing b;rod a from roof by a can 1;");
         due("16: twice nothing is not twice", y.change(0, 1, 1), 0);
+        // a: 30 each by three rods, 45 by two; b: 30 more on r
+        HungFloors z = Check.of("floor a weighs 90 can 1 stands 0;floor b weighs 30 can 1 stands 0;"
+                + "drawing a;rod r from roof by a b can 1;rod s from roof by a can 1;rod t from roof by a can 1;"
+                + "drawing b;rod r from roof by a can 1;rod s from roof by a can 1;");
+        due("16: nuts 45 for 30, s 45 for 30; r 45 for 60", z.change(0, 1, 0), 3);
+        due("16: none twice", z.change(0, 1, 1), 0);
+        due("16: r alone bears more", z.change(1, 0, 0), 1);
+        HungFloors w = Check.of("floor c weighs 30 can 1 stands 0;"
+                + "drawing a;rod r from roof by c can 1;rod s from roof by c can 1;rod t from roof by c can 1;"
+                + "rod p from roof by c can 1;"
+                + "drawing b;rod r from roof by c can 1;rod s from roof by c can 1;rod t from roof by c can 1;"
+                + "drawing c;rod r from roof by c can 1;rod s from roof by c can 1;");
+        due("16: 10 for 15 / 2", w.change(0, 1, 1), 0);
+        due("16: 15 for 15 / 2", w.change(0, 2, 1), 4);
+        due("16: 15 for 10", w.change(1, 2, 1), 0);
+        due("16: 15 for 10", w.change(1, 2, 0), 4);
     }
 
     private static void p17Weak() {
@@ -572,6 +594,36 @@ public final class PromisesTest {
         due("23: i max", x.elsewhere(0, Integer.MAX_VALUE), -1);
     }
 
+    private static void p23ByRatio() {
+        // nuts of p, q, r bear 5 of 3, 7 of 4, 12 of 7
+        String rods = "rod a from roof by p can 9;rod b from roof by q can 9;rod c from roof by r can 9;"
+                + "rod d from p by s can 9;rod e from q by s can 9;rod f from r by s can 9;";
+        HungFloors x = Check.of("floor p weighs 5 can 3 stands 0;floor q weighs 7 can 4 stands 0;"
+                + "floor r weighs 12 can 7 stands 0;floor s weighs 0 can 9 stands 0;"
+                + "drawing a;drawing b;" + rods + "drawing c;" + rods);
+        int[] want = {103, 203, 105, 205, 101, 201, -1};
+        for (int i = 0; i < want.length; i++) {
+            due("23: by ratio, then drawing, " + i, x.elsewhere(0, i), want[i]);
+        }
+        StringBuilder s = new StringBuilder();
+        for (char c = 'a'; c <= 'f'; c++) {
+            s.append("floor ").append(c).append(" weighs 0 can 1 stands 0;");
+        }
+        s.append("drawing a;");
+        for (char d = 'b'; d <= 'd'; d++) {
+            s.append("drawing ").append(d).append(";");
+            for (char c = 'a'; c <= 'e'; c++) {
+                s.append("rod ").append(c).append(" from roof by a b c d e can 1;");
+                s.append("rod ").append(c).append(c).append(" from ").append(c).append(" by f can 1;");
+            }
+        }
+        HungFloors y = Check.of(s.toString());
+        due("23: the first of many", y.elsewhere(0, 0), 101);
+        due("23: the sixth: behind the second rod's two", y.elsewhere(0, 5), 109);
+        due("23: the last of many", y.elsewhere(0, 74), 337);
+        due("23: no more", y.elsewhere(0, 75), -1);
+    }
+
     private static void p24Story() {
         HungFloors x = Check.of(WALK);
         due("24: no paper", x.story(0, 1, 1), false);
@@ -585,6 +637,10 @@ public final class PromisesTest {
         due("24: paper -1", x.story(-1, 1, 1), false);
         due("24: paper 11", x.story(11, 1, 1), false);
         due("24: nothing was done", x.believed(1, 0), 2);
+        HungFloors y = Check.of(WALK);
+        y.paper(0, 0, 0, 1, false);
+        due("24: of ten ten", y.story(0, 0, 10), true);
+        due("24: of ten ten", y.believed(0, 0), 0);
         for (int i = 0; i < 9; i++) {
             due("24: story(" + i + ")", x.story(i, 10, 0), true);
             due("24: again", x.story(i, 5, 5), false);
@@ -724,6 +780,16 @@ public final class PromisesTest {
         due("30: drawing 2", x.saw(2, 0, 1), -1);
         due("30: drawing -1", x.saw(-1, 0, 1), -1);
         due("30: before all", x.saw(1, 0, -1), -1);
+        HungFloors y = Check.of(WALK);
+        y.paper(5, 40, 1, 8, false);
+        y.paper(2, 30, 1, 8, false);
+        y.paper(0, 50, 1, 8, false);
+        y.paper(4, 30, 1, 8, false);
+        y.paper(3, 35, 1, 8, false);
+        due("30: the first day", y.saw(1, 0, 0), 30);
+        due("30: who", y.saw(1, 1, 0), 2);
+        y.paper(1, 30, 0, 99, false);
+        due("30: on that drawing", y.saw(1, 1, 0), 2);
     }
 
     private static void p31Hollow() {
@@ -805,6 +871,7 @@ public final class PromisesTest {
         p21Most();
         p22Rule();
         p23Elsewhere();
+        p23ByRatio();
         p24Story();
         p25Believed();
         p26Paper();

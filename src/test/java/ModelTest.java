@@ -291,6 +291,14 @@ public final class ModelTest {
                 tell(x, m, spoilt(text));
                 askPapers(x, m, t);
             }
+            if (run % 3 == 0) {
+                // another house on the same object: nothing of the one before may be left
+                String next = house();
+                tell(x, m, next);
+                load(x, m, t);
+                askAll(x, m, "behind that, " + next + " ");
+                askDear(x, m, "behind that, " + next + " ");
+            }
         }
         Check.finish();
     }

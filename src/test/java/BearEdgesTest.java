@@ -2,12 +2,7 @@
 public final class BearEdgesTest {
     private static final int MIN = Integer.MIN_VALUE;
     private static final int MAX = Integer.MAX_VALUE;
-    /** Two floors by two rods; then the lower hung from the upper; then no rods at all. */
-    private static final String WALK =
-            "floor u weighs 100 can 60 stands 1;floor l weighs 100 can 60 stands 1;"
-            + "drawing a;rod r from roof by u l can 200;rod s from roof by u l can 200;"
-            + "drawing b;rod r from roof by u can 200;rod s from roof by u can 200;"
-            + "rod t from u by l can 200;rod v from u by l can 200;drawing c;";
+    private static final String WALK = Houses.WALK;
 
     private static void due(String call, long got, long want) {
         Check.due(call, got, want);
@@ -26,33 +21,12 @@ public final class BearEdgesTest {
         return Check.of("drawing a;");
     }
 
-    /** Six floors, ten rods, each of which holds all of them: as many joints as there can be. */
     private static String full(int weighs, int can, int rodCan) {
-        StringBuilder s = new StringBuilder();
-        for (char c = 'a'; c <= 'f'; c++) {
-            s.append("floor ").append(c).append(" weighs ").append(weighs).append(" can ").append(can)
-                    .append(" stands 9;");
-        }
-        s.append("drawing a;");
-        for (char c = 'a'; c <= 'j'; c++) {
-            s.append("rod ").append(c).append(" from roof by a b c d e f can ").append(rodCan).append(";");
-        }
-        return s.toString();
+        return Houses.sixFloors(weighs, can) + Houses.tenRods(rodCan);
     }
 
-    /** Six floors, one hung from the other by one rod. */
     private static String chain(int weighs, int can, int rodCan) {
-        StringBuilder s = new StringBuilder();
-        for (char c = 'a'; c <= 'f'; c++) {
-            s.append("floor ").append(c).append(" weighs ").append(weighs).append(" can ").append(can)
-                    .append(" stands 9;");
-        }
-        s.append("drawing a;");
-        for (char c = 'a'; c <= 'f'; c++) {
-            s.append("rod ").append(c).append(" from ").append(c == 'a' ? "roof" : "" + (char) (c - 1))
-                    .append(" by ").append(c).append(" can ").append(rodCan).append(";");
-        }
-        return s.toString();
+        return Houses.sixFloors(weighs, can) + Houses.chain(rodCan);
     }
 
     /** "False, doing nothing, if there is none such, or people is not 0 .. 999." */
@@ -385,14 +359,14 @@ public final class BearEdgesTest {
         due("six in a chain: open", Check.of(chain(1, 1, 1)).floors(0, 0), 0);
         due("six in a chain: all but the last are double", Check.of(chain(1, 1, 1)).floors(0, 1), 31);
         due("held by ten, none hangs from them", Check.of(full(1, 1, 1)).floors(0, 1), 0);
-        String six = chain(1, 1, 1);
-        HungFloors x = Check.of(six.substring(0, six.indexOf("drawing")) + "drawing a;");
+        String six = Houses.sixFloors(1, 1) + "drawing a;";
+        HungFloors x = Check.of(six);
         due("six open", x.floors(0, 0), 63);
-        HungFloors y = Check.of(six.substring(0, six.indexOf("drawing")) + "drawing a;rod r from a by b can 1;"
+        HungFloors y = Check.of(six + "rod r from a by b can 1;"
                 + "rod s from b by f can 1;rod t from c by f can 1;");
         due("a, c, d, e are open", y.floors(0, 0), 1 | 4 | 8 | 16);
         due("b alone is double: a and c are open", y.floors(0, 1), 2);
-        HungFloors z = Check.of(six.substring(0, six.indexOf("drawing")) + "drawing a;rod r from a by b can 1;"
+        HungFloors z = Check.of(six + "rod r from a by b can 1;"
                 + "rod s from roof by a can 1;");
         due("a, of which the first rod hangs, is double", z.floors(0, 1), 1);
     }

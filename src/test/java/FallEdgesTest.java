@@ -11,10 +11,7 @@ public final class FallEdgesTest {
 
     /** Three drawings, people, a paper: drawing 1 is beyond, drawing 2 has no rods. */
     private static HungFloors walk() {
-        HungFloors x = Check.of("floor u weighs 100 can 60 stands 1;floor l weighs 100 can 60 stands 1;"
-                + "drawing a;rod r from roof by u l can 200;rod s from roof by u l can 200;"
-                + "drawing b;rod r from roof by u can 200;rod s from roof by u can 200;"
-                + "rod t from u by l can 200;rod v from u by l can 200;drawing c;");
+        HungFloors x = Check.of(Houses.WALK);
         x.live(1, 2);
         x.move(3);
         x.paper(1, 2, 1, 5, true);
@@ -22,11 +19,11 @@ public final class FallEdgesTest {
     }
 
     private static String floor(String name, int weighs, int can) {
-        return "floor " + name + " weighs " + weighs + " can " + can + " stands 1;";
+        return Houses.floor(name, weighs, can, 1);
     }
 
     private static String rod(String name, String from, String by, int can) {
-        return "rod " + name + " from " + from + " by " + by + " can " + can + ";";
+        return Houses.rod(name, from, by, can);
     }
 
     private static void falls(String text, int fallen, int... went) {
@@ -96,16 +93,8 @@ public final class FallEdgesTest {
 
     /** "All RODS that hang from it are no more, which may let others FALL." */
     private static void whatHangsFromIt() {
-        StringBuilder chain = new StringBuilder();
-        for (char c = 'a'; c <= 'f'; c++) {
-            chain.append(floor("" + c, 10, 999));
-        }
-        chain.append("drawing d;");
-        for (char c = 'a'; c <= 'f'; c++) {
-            chain.append(rod("" + c, c == 'a' ? "roof" : "" + (char) (c - 1), "" + c, c == 'a' ? 59 : 1));
-        }
-        falls(chain.toString(), 63, 0);
-        falls(chain.toString().replace("can 59", "can 60"), 0);
+        falls(Houses.sixFloors(10, 999) + Houses.chain(59), 63, 0);
+        falls(Houses.sixFloors(10, 999) + Houses.chain(60), 0);
         // b is held from the roof, too: by as much as it weighs, or by one less
         String start = floor("a", 40, 99) + floor("b", 30, 99) + "drawing d;" + rod("p", "roof", "a", 54)
                 + rod("k", "a", "b", 1);
@@ -132,19 +121,11 @@ public final class FallEdgesTest {
 
     /** As many as can go: 60 nuts, floor by floor. */
     private static void sixtyGo() {
-        StringBuilder s = new StringBuilder();
-        for (char c = 'a'; c <= 'f'; c++) {
-            s.append(floor("" + c, 999, 1));
-        }
-        s.append("drawing d;");
-        for (char c = 'a'; c <= 'j'; c++) {
-            s.append(rod("" + c, "roof", "a b c d e f", 9999));
-        }
         int[] went = new int[60];
         for (int i = 0; i < 60; i++) {
             went[i] = i % 10 * 7 + 1 + i / 10;
         }
-        falls(s.toString(), 63, went);
+        falls(Houses.sixFloors(999, 1) + Houses.tenRods(9999), 63, went);
     }
 
     /** "MORE: how many of the same JOINTS bear more"; "TWICE: at least twice as much (and more than 0)". */
@@ -371,17 +352,10 @@ public final class FallEdgesTest {
         chances(s + last.replace("stands 1", "stands 8") + rods, 10, 0, 1073741824L, 174887470365513049L);
         chances(s + last.replace("stands 1", "stands 8") + rods, 10, 20, 8916577718247424L, 174887470365513049L);
         // as many joints as there can be, each at what it can: whoever comes is too much
-        StringBuilder full = new StringBuilder();
-        for (char c = 'a'; c <= 'f'; c++) {
-            full.append(floor("" + c, 10, 1));
-        }
-        full.append("drawing d;");
-        for (char c = 'a'; c <= 'j'; c++) {
-            full.append(rod("" + c, "roof", "a b c d e f", 6));
-        }
-        chances(full.toString(), 0, 20, 0, 1);
-        chances(full.toString(), 1, 0, 1, 1);
-        chances(full.toString(), 10, 20, 1, 1);
+        String full = Houses.sixFloors(10, 1) + Houses.tenRods(6);
+        chances(full, 0, 20, 0, 1);
+        chances(full, 1, 0, 1, 1);
+        chances(full, 10, 20, 1, 1);
     }
 
     /** "NONE if one can't be" of odds. */
@@ -504,10 +478,7 @@ public final class FallEdgesTest {
         for (char c = 'a'; c <= 'e'; c++) {
             s.append(floor("" + c, 999, 9999));
         }
-        s.append(floor("f", 11, 1)).append("drawing d;");
-        for (char c = 'a'; c <= 'j'; c++) {
-            s.append(rod("" + c, "roof", "a b c d e f", 9999));
-        }
+        s.append(floor("f", 11, 1)).append(Houses.tenRods(9999));
         rules(s.toString(), 61, 61);
         rules(s.toString().replace("weighs 11", "weighs 10"), 0, 0);
     }

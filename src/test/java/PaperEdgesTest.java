@@ -2,12 +2,7 @@
 public final class PaperEdgesTest {
     private static final int MIN = Integer.MIN_VALUE;
     private static final int MAX = Integer.MAX_VALUE;
-    /** Drawing 0: 6 joints, none beyond; drawing 1: 8 joints, two beyond; drawing 2: no joints. */
-    private static final String WALK =
-            "floor u weighs 100 can 60 stands 1;floor l weighs 100 can 60 stands 1;"
-            + "drawing a;rod r from roof by u l can 200;rod s from roof by u l can 200;"
-            + "drawing b;rod r from roof by u can 200;rod s from roof by u can 200;"
-            + "rod t from u by l can 200;rod v from u by l can 200;drawing c;";
+    private static final String WALK = Houses.WALK;
 
     private static void due(String call, long got, long want) {
         Check.due(call, got, want);

@@ -1,10 +1,6 @@
 /** For each promise of the document ordinary inputs, the edges that it names, and wrong inputs; reckoned by hand. */
 public final class PromisesTest {
-    private static final String WALK =
-            "floor u weighs 100 can 60 stands 1;floor l weighs 100 can 60 stands 1;"
-            + "drawing a;rod r from roof by u l can 200;rod s from roof by u l can 200;"
-            + "drawing b;rod r from roof by u can 200;rod s from roof by u can 200;"
-            + "rod t from u by l can 200;rod v from u by l can 200;";
+    private static final String WALK = Houses.TWO_DRAWINGS;
     /** Floor a is open; b hangs from it by one rod, c from b by three. */
     private static final String DEEP =
             "floor a weighs 10 can 9999 stands 0;floor b weighs 20 can 9999 stands 0;floor c weighs 7 can 9999 stands 3;"

@@ -571,12 +571,10 @@ public final class HungFloors {
             text = bytes;
             length = Math.min(count, bytes.length);
             at = 0;
-            kind = Kind.END;
             advance();
         }
 
         void advance() {
-            int letterForbiddenAt = kind == Kind.NUMBER ? at : NONE;
             while (at < length && (text[at] == ' ' || text[at] == '\n')) {
                 at++;
             }
@@ -584,7 +582,7 @@ public final class HungFloors {
             if (at >= length) {
                 kind = Kind.END;
             } else if (text[at] >= 'a' && text[at] <= 'z') {
-                takeLetters(letterForbiddenAt);
+                takeLetters();
             } else if (text[at] >= '0' && text[at] <= '9') {
                 takeDigits();
             } else if (text[at] == ';') {
@@ -595,28 +593,25 @@ public final class HungFloors {
             }
         }
 
-        private void takeLetters(int letterForbiddenAt) {
-            if (start == letterForbiddenAt) {
-                kind = Kind.NOTHING;
-                return;
-            }
-            kind = Kind.WORD;
+        /** All letters that stand together are one word; too many of them are none. */
+        private void takeLetters() {
             word = 0;
-            int end = Math.min(length, start + MOST_LETTERS);
-            while (at < end && text[at] >= 'a' && text[at] <= 'z') {
+            while (at < length && text[at] >= 'a' && text[at] <= 'z') {
                 word = word << 8 | text[at];
                 at++;
             }
+            kind = at - start <= MOST_LETTERS ? Kind.WORD : Kind.NOTHING;
         }
 
+        /** Likewise of digits; with a letter directly behind them they are no number. */
         private void takeDigits() {
-            kind = Kind.NUMBER;
             number = 0;
-            int end = Math.min(length, start + MOST_DIGITS);
-            while (at < end && text[at] >= '0' && text[at] <= '9') {
+            while (at < length && text[at] >= '0' && text[at] <= '9') {
                 number = number * 10 + text[at] - '0';
                 at++;
             }
+            boolean letterBehind = at < length && text[at] >= 'a' && text[at] <= 'z';
+            kind = at - start <= MOST_DIGITS && !letterBehind ? Kind.NUMBER : Kind.NOTHING;
         }
 
         boolean isWord(long wanted) {

@@ -111,7 +111,7 @@ final class Model {
         }
     }
 
-    private static final Pattern TOKEN = Pattern.compile("\\G[ \\n]*(?:([a-z]{1,8})|([0-9]{1,4})|(;)|(\\z)|())");
+    private static final Pattern TOKEN = Pattern.compile("\\G[ \\n]*(?:([a-z]+)|([0-9]+(?:[a-z](?s:.*))?)|(;)|(\\z)|())");
 
     private static final class Text {
         final String text;
@@ -122,22 +122,17 @@ final class Model {
         Text(String text) {
             this.text = text;
             Matcher m = TOKEN.matcher(text);
-            int end = 0;
-            boolean number = false;
             while (m.find()) {
-                boolean letterBehindNumber = number && m.group(1) != null && m.start(1) == end;
-                boolean none = m.group(5) != null || letterBehindNumber;
                 int group = 1;
                 while (m.group(group) == null) {
                     group++;
                 }
-                tokens.add(none ? "?" : group == 4 ? "" : m.group(group));
+                boolean none = group == 5 || group != 4 && !m.group(group).matches("[a-z]{1,8}|[0-9]{1,4}|;");
+                tokens.add(none ? "?" : m.group(group));
                 places.add(m.start(group));
                 if (none || group == 4) {
                     return;
                 }
-                number = group == 2;
-                end = m.end(group);
             }
         }
 

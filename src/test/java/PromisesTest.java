@@ -216,15 +216,15 @@ public final class PromisesTest {
     /** Tokens: each as long as can be, of 8 letters or 4 digits at most; no letter directly behind a number. */
     private static void p05Tokens() {
         faulty("drawing abcdefgh;", 0, -1);
-        faulty("drawing abcdefghi;", 2, 16);
+        faulty("drawing abcdefghi;", 1, 8);
         faulty("drawinga;", 2, 0);
-        faulty("drawingab", 2, 0);
-        faulty("floor a weighs0can", 1, 15);
-        faulty("floor a weighs 0can", 1, 16);
-        faulty("floor a weighs 0 can9999stands", 1, 24);
-        faulty("floor a weighs 00000", 2, 19);
-        faulty("floor a weighs 0000 can 99991", 2, 28);
-        faulty("floor a weighs 10000", 4, 15);
+        faulty("drawingab", 1, 0);
+        faulty("floor a weighs0can", 1, 14);
+        faulty("floor a weighs 0can", 1, 15);
+        faulty("floor a weighs 0 can9999stands", 1, 20);
+        faulty("floor a weighs 00000", 1, 15);
+        faulty("floor a weighs 0000 can 99991", 1, 24);
+        faulty("floor a weighs 10000", 1, 15);
         faulty("floor a weighs0\ncan1\nstands0;drawing a;", 0, -1);
     }
 

@@ -191,6 +191,36 @@ public final class TextEdgesTest {
         due("no drawing", z.about(1), 0);
     }
 
+    /** "Its first n bytes": what stood behind them is no part of a token that ends there. */
+    private static void cutInAToken() {
+        cutAt("floor a weighs 12345", 20, 1, 15);
+        cutAt("floor a weighs 12345", 19, 4, 15);
+        cutAt("floor a weighs 12345", 18, 2, 18);
+        cutAt("floor a weighs 12345", 16, 2, 16);
+        cutAt("floor a weighs 12345", 15, 2, 15);
+        cutAt("floor a weighs 12345", 14, 2, 14);
+        cutAt("floor a weighs 12345", 13, 2, 8);
+        cutAt("floor a weighs 1cans", 17, 1, 15);
+        cutAt("floor a weighs 1cans", 16, 2, 16);
+        cutAt("drawing abcdefghijkl", 17, 1, 8);
+        cutAt("drawing abcdefghijkl", 16, 2, 16);
+        cutAt("drawing abcdefghijkl", 8, 2, 8);
+        cutAt("drawing a;?         ", 11, 1, 10);
+        HungFloors x = new HungFloors();
+        Check.tape(x, "drawing a;?");
+        x.end(10);
+        due("what is no token has gone", x.house(), 1);
+    }
+
+    private static void cutAt(String text, int n, int kind, int place) {
+        HungFloors x = new HungFloors();
+        Check.tape(x, text);
+        due("end(" + n + ") of " + text, x.end(n), n);
+        due("house() of " + n + " of " + text, x.house(), -1);
+        due("fault(0) of " + n + " of " + text, x.fault(0), kind);
+        due("fault(1) of " + n + " of " + text, x.fault(1), place);
+    }
+
     /** "house = {line}": none, blanks alone, one, many. */
     private static void noLines() {
         good("", 0);
@@ -312,7 +342,12 @@ public final class TextEdgesTest {
             faulty("drawing b" + c + ";", 1, 9);
         }
         good("drawing abcdefg;drawing abcdefgh;", 2);
-        faulty("drawing abcdefghi;", 2, 16);
+        faulty("drawing abcdefghi;", 1, 8);
+        faulty("drawing abcdefghijklmnopqrstuvwxyz;", 1, 8);
+        faulty("drawing floorfloor;", 1, 8);
+        faulty("drawingabc;", 1, 0);
+        faulty(TWO + "rod r from roof by aaaaaaaab can 1;", 1, TWO.length() + 19);
+        faulty(TWO + "rod r from roofroofs by a can 1;", 1, TWO.length() + 11);
         faulty("drawing abcdefgh i;", 2, 17);
         good("drawing abcdefgh;drawing abcdefgi;drawing bbcdefgh;drawing abcdefg;", 4);
         faulty("drawing abcdefgh;drawing abcdefgh;", 3, 25);
@@ -328,9 +363,12 @@ public final class TextEdgesTest {
         due("one digit", good("floor a weighs 9 can 9 stands 9;drawing d;", 1).weight(0, 0, 0), 9);
         due("four digits", good("floor a weighs 0999 can 9999 stands 0009;drawing d;", 1).weight(0, 0, 0), 999);
         due("zeros", good("floor a weighs 0000 can 0001 stands 0000;drawing d;", 1).weight(0, 0, 0), 0);
-        faulty("floor a weighs 00000 can 1 stands 1;", 2, 19);
-        faulty("floor a weighs 1 can 99999 stands 1;", 2, 25);
-        faulty("floor a weighs 1 can 1 stands 00001;", 2, 34);
+        faulty("floor a weighs 00000 can 1 stands 1;", 1, 15);
+        faulty("floor a weighs 10000 can 1 stands 1;", 1, 15);
+        faulty("floor a weighs 42949672970 can 1 stands 1;", 1, 15);
+        faulty("floor a weighs 1 can 10000 stands 1;", 1, 21);
+        faulty("floor a weighs 1 can 1 stands 00001;", 1, 30);
+        faulty("drawing 12345;", 1, 8);
         faulty("floor a weighs 1 1 can 1 stands 1;", 2, 17);
         faulty("floor a weighs can 1 stands 1;", 2, 15);
         faulty("floor a weighs / can 1 stands 1;", 1, 15);
@@ -367,12 +405,16 @@ public final class TextEdgesTest {
         faulty(TWO + "rod r fromroof by a can 1;", 2, TWO.length() + 6);
         faulty(TWO + "rod r from roofby a can 1;", 5, TWO.length() + 11);
         faulty(TWO + "rod r from roof by ab can 1;", 5, TWO.length() + 19);
-        faulty("floor a weighs 1can 1 stands 1;", 1, 16);
-        faulty("floor a weighs 1 can 1stands 1;", 1, 22);
-        faulty("floor a weighs 1 can 9999stands 1;", 1, 25);
-        faulty("floor a weighs 1 can 1 stands 1a;", 1, 31);
+        faulty("floor a weighs 1can 1 stands 1;", 1, 15);
+        faulty("floor a weighs 1 can 1stands 1;", 1, 21);
+        faulty("floor a weighs 1 can 9999stands 1;", 1, 21);
+        faulty("floor a weighs 1000can 1 stands 1;", 1, 15);
+        faulty("floor a weighs 1 can 1 stands 1a;", 1, 30);
+        faulty("floor a weighs 1 can 1 stands 1z;", 1, 30);
         faulty("drawing a1;", 2, 9);
-        faulty("drawing 1a;", 2, 8);
+        faulty("drawing 1a;", 1, 8);
+        faulty("drawing 1 a;", 2, 8);
+        faulty("floor a weighs 1A can 1 stands 1;", 1, 16);
         good("floor a weighs 1\ncan 1 stands 1;", 0);
         good("floor a weighs 1 can 1 stands 1 ;", 0);
     }
@@ -471,7 +513,7 @@ public final class TextEdgesTest {
         due("can 9999", good(start + "9999;", 1).joint(0, 0, 2), 9999);
         faulty(start + "0;", 4, start.length());
         faulty(start + "0000;", 4, start.length());
-        faulty(start + "10000;", 2, start.length() + 4);
+        faulty(start + "10000;", 1, start.length());
         faulty(start + ";", 2, start.length());
     }
 
@@ -610,6 +652,7 @@ public final class TextEdgesTest {
         feedUpToTheLast();
         bytesInOrder();
         endOfTape();
+        cutInAToken();
         noLines();
         anotherHouse();
         sameHouseAgain();
